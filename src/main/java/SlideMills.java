@@ -15,6 +15,7 @@ public final class SlideMills {
     private static final int LAZY = 1;
     private static final int CHEAP = 2;
     private static final int NONE = -1;
+    private static final int TOO_DEAR = 1000000;
     private static final int TOO_FAR = 1;
     private static final int TOO_MANY_UNPACKED = 2;
     private static final int TOO_MANY_LETTERS = 3;
@@ -513,8 +514,8 @@ public final class SlideMills {
             case 'l':
                 return putToken(0, buffer.codeAt(start + 1) - 'a');
             case 'r':
-                int behind = buffer.endOfNumber(start + 1);
-                return putToken(buffer.number(start + 1), buffer.number(behind + 1));
+                int comma = buffer.endOfNumber(start + 1);
+                return putToken(buffer.number(start + 1), buffer.number(comma + 1));
             default:
                 return 0;
         }
@@ -685,13 +686,6 @@ public final class SlideMills {
 
         void clear() {
             count = 0;
-        }
-
-        /** Two places behind the end are not like each other. */
-        boolean areLike(int one, int other) {
-            return one >= 0 && one < count && one < row.length
-                    && other >= 0 && other < count && other < row.length
-                    && row[one] == row[other];
         }
 
         boolean isLike(Letters other) {
@@ -935,12 +929,16 @@ public final class SlideMills {
 
         /** How many letters from the place on are like those the distance ahead, up to the longest. */
         int alike(int place, int distance) {
-            int length = 0;
-            while (length < settings.longest
-                    && text.areLike(place + length, place + length - distance)) {
-                length++;
+            if (distance < 0 || distance > place) {
+                return 0;
             }
-            return length;
+            int[] row = text.row;
+            int end = Math.min(Math.min(place + settings.longest, text.count), row.length);
+            int behind = place;
+            while (behind < end && row[behind] == row[behind - distance]) {
+                behind++;
+            }
+            return behind - place;
         }
 
         int longestAt(int place, int window) {
@@ -1073,7 +1071,7 @@ public final class SlideMills {
         /** Tells each place the least cost of all ahead of it, and answers that of the end. */
         int leastFromBeginning() {
             for (int place = 0; place < costs.length; place++) {
-                costs[place] = place == 0 ? 0 : Integer.MAX_VALUE;
+                costs[place] = place == 0 ? 0 : TOO_DEAR;
             }
             for (int place = 0; place < mill.text.count; place++) {
                 lower(place + 1, costAt(place) + mill.settings.letterPrice);
@@ -1234,7 +1232,7 @@ public final class SlideMills {
                 case LETTER:
                     return isLetterSign(code) ? END : ERROR;
                 case DISTANCE:
-                    return !isDigit(code, '1') ? ERROR : code <= '3' ? MORE_DISTANCE : COMMA;
+                    return behindFirstOfDistance(code);
                 case MORE_DISTANCE:
                     return isDigit(code, '0') ? COMMA : behindDistance(code);
                 case COMMA:
@@ -1277,6 +1275,13 @@ public final class SlideMills {
 
         private static int behindDistance(int code) {
             return code == ',' ? LENGTH : ERROR;
+        }
+
+        private static int behindFirstOfDistance(int code) {
+            if (!isDigit(code, '1')) {
+                return ERROR;
+            }
+            return code <= '3' ? MORE_DISTANCE : COMMA;
         }
 
         private static int behindFirstOfLength(int code) {
