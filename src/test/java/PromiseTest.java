@@ -50,55 +50,6 @@ public final class PromiseTest {
         CHECKS.same("promise " + promise + ": " + what, due, Checks.answer(call));
     }
 
-    private static SlideMills withText(String letters) {
-        SlideMills x = new SlideMills();
-        for (int i = 0; i < letters.length(); i++) {
-            x.addLetter(letters.charAt(i) - 'a');
-        }
-        return x;
-    }
-
-    private static String textOf(SlideMills x) {
-        StringBuilder text = new StringBuilder();
-        for (int i = 0; i < x.textLength(); i++) {
-            text.append((char) ('a' + x.letterAt(i)));
-        }
-        return text.toString();
-    }
-
-    private static String sackOf(SlideMills x) {
-        StringBuilder sack = new StringBuilder();
-        for (int i = 0; i < x.tokens(); i++) {
-            if (x.isRepeat(i)) {
-                sack.append('<').append(x.distanceOf(i)).append(',').append(x.lengthOf(i)).append('>');
-            } else {
-                sack.append((char) ('a' + x.letterOf(i)));
-            }
-        }
-        return sack.toString();
-    }
-
-    private static void type(SlideMills x, String characters) {
-        for (int i = 0; i < characters.length(); i++) {
-            x.append(characters.charAt(i));
-        }
-    }
-
-    private static int doWorks(SlideMills x, String works) {
-        type(x, works);
-        return x.work();
-    }
-
-    private static int errorIn(String characters) {
-        SlideMills x = new SlideMills();
-        type(x, characters);
-        return x.firstError();
-    }
-
-    private static String times(int count, String part) {
-        return part.repeat(count);
-    }
-
     private static void newObject() {
         promise = 1;
         SlideMills x = new SlideMills();
@@ -120,19 +71,19 @@ public final class PromiseTest {
         SlideMills x = new SlideMills();
         due("first", 1, () -> x.addLetter(0));
         due("second", 2, () -> x.addLetter(3));
-        due("text", "ad", () -> textOf(x));
+        due("text", "ad", () -> Mills.textOf(x));
         due("4", ARGUMENT, () -> x.addLetter(4));
-        SlideMills full = withText(times(40, "b"));
+        SlideMills full = Mills.withText(Mills.times(40, "b"));
         due("text is full", STATE, () -> full.addLetter(0));
         due("letter before fullness", ARGUMENT, () -> full.addLetter(4));
         for (int far : FAR_OUT) {
             due("letter " + far, ARGUMENT, () -> x.addLetter(far));
         }
-        due("text after", "ad", () -> textOf(x));
+        due("text after", "ad", () -> Mills.textOf(x));
         promise = 3;
         due("replace the second", 3, () -> x.setLetter(1, 2));
         due("replace the first", 0, () -> x.setLetter(0, 1));
-        due("text", "bc", () -> textOf(x));
+        due("text", "bc", () -> Mills.textOf(x));
         due("letter 4", ARGUMENT, () -> x.setLetter(1, 4));
         due("letter -1", ARGUMENT, () -> x.setLetter(0, -1));
         due("place 2", INDEX, () -> x.setLetter(2, 0));
@@ -145,7 +96,7 @@ public final class PromiseTest {
         due("empty", 2, x::emptyText);
         due("empty again", 0, x::emptyText);
         due("full", 40, full::emptyText);
-        due("text", "", () -> textOf(full));
+        due("text", "", () -> Mills.textOf(full));
         due("one after", 1, () -> full.addLetter(3));
     }
 
@@ -204,56 +155,52 @@ public final class PromiseTest {
 
     private static void packing() {
         promise = 10;
-        SlideMills x = withText("abcabcabcdabca");
+        SlideMills x = Mills.withText("abcabcabcdabca");
         due("greedy", 6, () -> x.pack(0));
-        due("greedy sack", "abc<3,6>d<7,4>", () -> sackOf(x));
-        due("text stays", "abcabcabcdabca", () -> textOf(x));
-        due("repeat over itself", 2, () -> withText("aaaaaa").pack(0));
+        due("greedy sack", "abc<3,6>d<7,4>", () -> Mills.sackOf(x));
+        due("text stays", "abcabcabcdabca", () -> Mills.textOf(x));
+        due("repeat over itself", 2, () -> Mills.withText("aaaaaa").pack(0));
         // At place 7 stands "bcd", at place 8 the longer "cdabc": lazily the letter comes first.
-        SlideMills y = withText("bcdcdabcbcdabc");
-        due("greedy takes the first", "bcdcdabc<8,3><6,3>", () -> packed(y, 0));
-        due("lazy waits", "bcdcdabcb<6,5>", () -> packed(y, 1));
-        due("cheap", "bcdcdabcb<6,5>", () -> packed(y, 2));
-        due("lazy does not wait for the same", "a<1,8><1,3>", () -> packed(withText(times(12, "a")), 1));
+        SlideMills y = Mills.withText("bcdcdabcbcdabc");
+        due("greedy takes the first", "bcdcdabc<8,3><6,3>", () -> Mills.packed(y, 0));
+        due("lazy waits", "bcdcdabcb<6,5>", () -> Mills.packed(y, 1));
+        due("cheap", "bcdcdabcb<6,5>", () -> Mills.packed(y, 2));
+        due("lazy does not wait for the same", "a<1,8><1,3>",
+                () -> Mills.packed(Mills.withText(Mills.times(12, "a")), 1));
         due("3", ARGUMENT, () -> y.pack(3));
         for (int far : FAR_OUT) {
             due("way " + far, ARGUMENT, () -> y.pack(far));
         }
-        due("sack after", "bcdcdabcb<6,5>", () -> sackOf(y));
+        due("sack after", "bcdcdabcb<6,5>", () -> Mills.sackOf(y));
         SlideMills empty = new SlideMills();
         empty.addToken(0);
         due("empty text", 0, () -> empty.pack(2));
-        SlideMills narrow = withText(times(10, "abcd"));
+        SlideMills narrow = Mills.withText(Mills.times(10, "abcd"));
         narrow.setWindow(3);
         due("longest row", 40, () -> narrow.pack(2));
     }
 
-    private static String packed(SlideMills x, int way) {
-        x.pack(way);
-        return sackOf(x);
-    }
-
     private static void packingTies() {
         promise = 10;
-        SlideMills x = withText("aaaaaaaaaaaa");
+        SlideMills x = Mills.withText("aaaaaaaaaaaa");
         x.setLongest(4);
         // 11 letters behind the first: 4+4+3, the longest ones first, at the least distance.
-        due("longest first", "a<1,4><1,4><1,3>", () -> packed(x, 2));
+        due("longest first", "a<1,4><1,4><1,3>", () -> Mills.packed(x, 2));
         x.setShortest(4);
         // 11 = 4+4+3 letters, of which one row has its repeats first.
-        due("letters last", "a<1,4><1,4>aaa", () -> packed(x, 2));
-        SlideMills dear = withText("abcabc");
+        due("letters last", "a<1,4><1,4>aaa", () -> Mills.packed(x, 2));
+        SlideMills dear = Mills.withText("abcabc");
         dear.setRepeatPrice(9);
-        due("equal prices: the repeat", "abc<3,3>", () -> packed(dear, 2));
+        due("equal prices: the repeat", "abc<3,3>", () -> Mills.packed(dear, 2));
         dear.setRepeatPrice(10);
-        due("dearer: the letters", "abcabc", () -> packed(dear, 2));
-        due("greedy does not care", "abc<3,3>", () -> packed(dear, 0));
-        SlideMills near = withText("dbcadbcbbbdbca");
-        due("the longest, not the nearest", "dbca<4,3>bbb<10,4>", () -> packed(near, 0));
+        due("dearer: the letters", "abcabc", () -> Mills.packed(dear, 2));
+        due("greedy does not care", "abc<3,3>", () -> Mills.packed(dear, 0));
+        SlideMills near = Mills.withText("dbcadbcbbbdbca");
+        due("the longest, not the nearest", "dbca<4,3>bbb<10,4>", () -> Mills.packed(near, 0));
         // At place 8 the longest is bbcc, 8 back; the cheaper bbc stands 8 back too, but also 4 back.
-        SlideMills shortened = withText("bbccbbcabbcccc");
-        due("greedily long", "bbcc<4,3>a<8,4>cc", () -> packed(shortened, 0));
-        due("cheaply short and near", "bbcc<4,3>a<4,3><1,3>", () -> packed(shortened, 2));
+        SlideMills shortened = Mills.withText("bbccbbcabbcccc");
+        due("greedily long", "bbcc<4,3>a<8,4>cc", () -> Mills.packed(shortened, 0));
+        due("cheaply short and near", "bbcc<4,3>a<4,3><1,3>", () -> Mills.packed(shortened, 2));
     }
 
     private static void unpackingPossible() {
@@ -263,8 +210,8 @@ public final class PromiseTest {
         x.addToken(2);
         x.addRepeat(2, 5);
         due("overlapping", 7, x::unpack);
-        due("text", "bcbcbcb", () -> textOf(x));
-        due("sack stays", "bc<2,5>", () -> sackOf(x));
+        due("text", "bcbcbcb", () -> Mills.textOf(x));
+        due("sack stays", "bc<2,5>", () -> Mills.sackOf(x));
         x.addRepeat(7, 33);
         due("40 letters", 40, x::unpack);
         x.addToken(0);
@@ -283,7 +230,7 @@ public final class PromiseTest {
         SlideMills x = new SlideMills();
         due("first", 1, () -> x.addToken(0));
         due("second", 2, () -> x.addToken(3));
-        due("sack", "ad", () -> sackOf(x));
+        due("sack", "ad", () -> Mills.sackOf(x));
         due("4", ARGUMENT, () -> x.addToken(4));
         for (int i = 2; i < 40; i++) {
             x.addToken(1);
@@ -297,7 +244,7 @@ public final class PromiseTest {
         SlideMills y = new SlideMills();
         due("least", 1, () -> y.addRepeat(1, 1));
         due("most", 2, () -> y.addRepeat(39, 40));
-        due("sack", "<1,1><39,40>", () -> sackOf(y));
+        due("sack", "<1,1><39,40>", () -> Mills.sackOf(y));
         due("distance 40", ARGUMENT, () -> y.addRepeat(40, 1));
         due("length 0", ARGUMENT, () -> y.addRepeat(1, 0));
         due("length 41", ARGUMENT, () -> y.addRepeat(1, 41));
@@ -317,7 +264,7 @@ public final class PromiseTest {
         x.addToken(2);
         x.addRepeat(1, 3);
         due("repeat", 1, x::takeLast);
-        due("left", "c", () -> sackOf(x));
+        due("left", "c", () -> Mills.sackOf(x));
         due("letter", 0, x::takeLast);
         due("empty again", STATE, x::takeLast);
         promise = 15;
@@ -327,7 +274,7 @@ public final class PromiseTest {
         due("two", 2, x::emptySack);
         due("then", 0, x::tokens);
         due("one after", 1, () -> x.addToken(1));
-        due("that one", "b", () -> sackOf(x));
+        due("that one", "b", () -> Mills.sackOf(x));
     }
 
     private static void theBuffer() {
@@ -359,29 +306,30 @@ public final class PromiseTest {
             "r39,40", "r9,9", "r10,10", "r3,4", "r30,39", "u;u", "+a;-;p0;u;e;lb;r1,2",
             "+", "p", "l", "r", "r1", "r39", "r1,", "r3,4", "u;", "u;r2"};
         for (String text : whole) {
-            due("no error in " + text, text.length(), () -> errorIn(text));
+            due("no error in " + text, text.length(), () -> Mills.errorIn(text));
         }
         String[] broken = {"x", "A", ";", "a", "1", "+;", "+e", "+aA", "-a", "-;;", "p3", "p;", "p00",
-            "ua", "ee", "l;", "lab", "le", "r0", "ra", "r,", "r40", "r4:", "r:", "r3:", "r1,:", "r1,3:", "r/", "r1/", "p/", "la`", "l`", "+a`", "r391", "r100", "r1;",
+            "ua", "ee", "l;", "lab", "le", "r0", "ra", "r,", "r40", "r4:", "r:", "r3:",
+            "r1,:", "r1,3:", "r/", "r1/", "p/", "la`", "l`", "+a`", "r391", "r100", "r1;",
             "r1a", "r1,0", "r1,a", "r1,41", "r1,49", "r1,50", "r1,99", "r1,100", "r1,400", "r1,1a",
             "r1,4;;", "u;x", "+ab1", "+ab;;"};
         for (String text : broken) {
-            due("last is wrong in " + text, text.length() - 1, () -> errorIn(text));
+            due("last is wrong in " + text, text.length() - 1, () -> Mills.errorIn(text));
         }
-        due("the first one counts", 1, () -> errorIn("uu;;x"));
-        due("what comes behind an error", 0, () -> errorIn("xu"));
+        due("the first one counts", 1, () -> Mills.errorIn("uu;;x"));
+        due("what comes behind an error", 0, () -> Mills.errorIn("xu"));
     }
 
     private static void longestTexts() {
         promise = 18;
-        due("60 characters and no room for more", 60, () -> errorIn(times(29, "u;") + "r1"));
+        due("60 characters and no room for more", 60, () -> Mills.errorIn(Mills.times(29, "u;") + "r1"));
         SlideMills x = new SlideMills();
-        type(x, times(30, "u;"));
+        Mills.type(x, Mills.times(30, "u;"));
         due("no part behind", 60, x::firstError);
         promise = 19;
         due("not complete", ARGUMENT, x::work);
         SlideMills y = new SlideMills();
-        type(y, times(29, "u;") + "p1");
+        Mills.type(y, Mills.times(29, "u;") + "p1");
         due("thirty parts", 30, y::work);
     }
 
@@ -390,32 +338,32 @@ public final class PromiseTest {
         SlideMills x = new SlideMills();
         due("empty buffer", ARGUMENT, x::work);
         due("nothing saved", 0, x::savedStates);
-        due("letters", 1, () -> doWorks(x, "+abcd"));
-        due("text", "abcd", () -> textOf(x));
-        due("more letters", 2, () -> doWorks(x, "+ab;+cd"));
-        due("text", "abcdabcd", () -> textOf(x));
+        due("letters", 1, () -> Mills.doWorks(x, "+abcd"));
+        due("text", "abcd", () -> Mills.textOf(x));
+        due("more letters", 2, () -> Mills.doWorks(x, "+ab;+cd"));
+        due("text", "abcdabcd", () -> Mills.textOf(x));
         due("each one saved", 2, x::savedStates);
         due("buffer cleared", 0, x::clearBuffer);
-        due("pack", 1, () -> doWorks(x, "p0"));
-        due("sack", "abcd<4,4>", () -> sackOf(x));
-        due("tokens", 2, () -> doWorks(x, "ld;r12,5"));
-        due("sack", "abcd<4,4>d<12,5>", () -> sackOf(x));
-        due("empty and add", 3, () -> doWorks(x, "e;la;r1,13"));
-        due("sack", "a<1,13>", () -> sackOf(x));
-        due("unpack", 1, () -> doWorks(x, "u"));
-        due("text", times(14, "a"), () -> textOf(x));
-        due("empty text", 1, () -> doWorks(x, "-"));
-        due("text", "", () -> textOf(x));
-        due("ways", 3, () -> doWorks(x, "+bcdcdabcbcdabc;p0;p1"));
-        due("sack", "bcdcdabcb<6,5>", () -> sackOf(x));
+        due("pack", 1, () -> Mills.doWorks(x, "p0"));
+        due("sack", "abcd<4,4>", () -> Mills.sackOf(x));
+        due("tokens", 2, () -> Mills.doWorks(x, "ld;r12,5"));
+        due("sack", "abcd<4,4>d<12,5>", () -> Mills.sackOf(x));
+        due("empty and add", 3, () -> Mills.doWorks(x, "e;la;r1,13"));
+        due("sack", "a<1,13>", () -> Mills.sackOf(x));
+        due("unpack", 1, () -> Mills.doWorks(x, "u"));
+        due("text", Mills.times(14, "a"), () -> Mills.textOf(x));
+        due("empty text", 1, () -> Mills.doWorks(x, "-"));
+        due("text", "", () -> Mills.textOf(x));
+        due("ways", 3, () -> Mills.doWorks(x, "+bcdcdabcbcdabc;p0;p1"));
+        due("sack", "bcdcdabcb<6,5>", () -> Mills.sackOf(x));
         for (String text : new String[] {"+", "p", "l", "r", "r3", "r39", "r1,", "u;", "x", "uu", "u;x"}) {
             x.clearBuffer();
-            type(x, text);
+            Mills.type(x, text);
             due("not complete: " + text, ARGUMENT, x::work);
             due("buffer stays", text.length(), x::clearBuffer);
         }
         for (String text : new String[] {"r1,1", "r1,4", "r1,40", "r39,7"}) {
-            due("complete: " + text, 1, () -> doWorks(x, text));
+            due("complete: " + text, 1, () -> Mills.doWorks(x, text));
         }
     }
 
@@ -423,7 +371,7 @@ public final class PromiseTest {
         promise = 20;
         SlideMills x = new SlideMills();
         due("at first", false, x::hasStopped);
-        doWorks(x, "+a;-");
+        Mills.doWorks(x, "+a;-");
         due("all done", false, x::hasStopped);
         promise = 21;
         due("no stop", STATE, x::stoppedPart);
@@ -432,40 +380,40 @@ public final class PromiseTest {
         expectStop("la;r2,3;u;+a", 2, 1, "");
         expectStop("+a;la;r1,40;u", 3, 2, "a");
         expectStop("r1,1;u;-", 1, 1, "");
-        expectStop("+" + times(38, "a") + ";+bc;+a;-", 2, 3, times(38, "a") + "bc");
-        expectStop("+" + times(38, "a") + ";+bcd;-", 1, 3, times(38, "a"));
-        expectStop("+" + times(41, "a"), 0, 3, "");
+        expectStop("+" + Mills.times(38, "a") + ";+bc;+a;-", 2, 3, Mills.times(38, "a") + "bc");
+        expectStop("+" + Mills.times(38, "a") + ";+bcd;-", 1, 3, Mills.times(38, "a"));
+        expectStop("+" + Mills.times(41, "a"), 0, 3, "");
         SlideMills full = new SlideMills();
         for (int i = 0; i < 39; i++) {
             full.addToken(0);
         }
         promise = 22;
-        due("the last token", 1, () -> doWorks(full, "la"));
+        due("the last token", 1, () -> Mills.doWorks(full, "la"));
         due("no stop yet", false, full::hasStopped);
-        due("one too many", 0, () -> doWorks(full, "la;e"));
+        due("one too many", 0, () -> Mills.doWorks(full, "la;e"));
         due("sack full", 4, full::whyStopped);
         due("nothing done behind", 40, full::tokens);
-        due("a repeat too many", 1, () -> doWorks(full, "u;r1,1;e"));
+        due("a repeat too many", 1, () -> Mills.doWorks(full, "u;r1,1;e"));
         due("sack full", 4, full::whyStopped);
         promise = 21;
         due("part", 1, full::stoppedPart);
         promise = 20;
-        due("wrong works leave the stop", ARGUMENT, () -> doWorks(full, "x"));
+        due("wrong works leave the stop", ARGUMENT, () -> Mills.doWorks(full, "x"));
         due("still", true, full::hasStopped);
         full.clearBuffer();
         due("other calls leave the stop", 40, full::emptySack);
         due("still", true, full::hasStopped);
-        due("works that go through", 1, () -> doWorks(full, "e"));
+        due("works that go through", 1, () -> Mills.doWorks(full, "e"));
         due("no more", false, full::hasStopped);
     }
 
     private static void expectStop(String works, int part, int reason, String text) {
         SlideMills x = new SlideMills();
         promise = 19;
-        due(works, part, () -> doWorks(x, works));
+        due(works, part, () -> Mills.doWorks(x, works));
         due(works + " buffer", 0, x::clearBuffer);
         due(works + " saved", 1, x::savedStates);
-        due(works + " text", text, () -> textOf(x));
+        due(works + " text", text, () -> Mills.textOf(x));
         promise = 20;
         due(works, true, x::hasStopped);
         promise = 21;
@@ -477,17 +425,17 @@ public final class PromiseTest {
     private static void stopsAreStates() {
         promise = 23;
         SlideMills x = new SlideMills();
-        doWorks(x, "r1,1;u");
-        doWorks(x, "u;u");
+        Mills.doWorks(x, "r1,1;u");
+        Mills.doWorks(x, "u;u");
         due("stopped at the first", 0, x::stoppedPart);
         due("undo", 1, x::undo);
         due("the stop before", 1, x::stoppedPart);
         due("undo", 0, x::undo);
         due("no stop", false, x::hasStopped);
         promise = 25;
-        doWorks(x, "r1,1;u");
+        Mills.doWorks(x, "r1,1;u");
         x.keep();
-        doWorks(x, "e");
+        Mills.doWorks(x, "e");
         due("no stop", false, x::hasStopped);
         due("restore", 0, x::restore);
         due("the stop of the snapshot", 1, x::whyStopped);
@@ -506,10 +454,10 @@ public final class PromiseTest {
         for (int left = 5; left >= 0; left--) {
             int due = left;
             due("undo", due, x::undo);
-            due("text", "abcdabcd".substring(0, 2 + due), () -> textOf(x));
+            due("text", "abcdabcd".substring(0, 2 + due), () -> Mills.textOf(x));
         }
         due("none left", STATE, x::undo);
-        type(x, "+ab");
+        Mills.type(x, "+ab");
         x.addLetter(3);
         x.append('c');
         x.keep();
@@ -529,10 +477,10 @@ public final class PromiseTest {
             x -> x.setWindow(2), x -> x.setShortest(4), x -> x.setLongest(5), x -> x.setLetterPrice(7),
             x -> x.setRepeatPrice(13), x -> x.pack(1), SlideMills::unpack, x -> x.addToken(2),
             x -> x.addRepeat(3, 4), SlideMills::takeLast, SlideMills::emptySack,
-            x -> doWorks(x, "+ab;-;e;u;ld;r1,2;p0"), x -> doWorks(x, "r1,2;r39,1;u"), SlideMills::restore};
+            x -> Mills.doWorks(x, "+ab;-;e;u;ld;r1,2;p0"), x -> Mills.doWorks(x, "r1,2;r39,1;u"), SlideMills::restore};
         promise = 23;
         for (int i = 0; i < changes.length; i++) {
-            SlideMills x = withText("abcabc");
+            SlideMills x = Mills.withText("abcabc");
             x.addToken(1);
             x.addRepeat(1, 4);
             x.keep();
@@ -553,7 +501,7 @@ public final class PromiseTest {
 
     private static void thrownCallsSaveNothing() {
         promise = 26;
-        SlideMills x = withText(times(5, "a"));
+        SlideMills x = Mills.withText(Mills.times(5, "a"));
         x.addRepeat(3, 3);
         x.undo();
         x.addRepeat(3, 3);
@@ -586,7 +534,7 @@ public final class PromiseTest {
 
     private static void snapshots() {
         promise = 24;
-        SlideMills x = withText("abc");
+        SlideMills x = Mills.withText("abc");
         x.addToken(2);
         due("keep", 3, x::keep);
         due("not undoable", 4, x::savedStates);
@@ -594,14 +542,14 @@ public final class PromiseTest {
         x.setWindow(3);
         x.emptyText();
         x.emptySack();
-        type(x, "uu");
+        Mills.type(x, "uu");
         due("restore", 3, x::restore);
-        due("text", "abc", () -> textOf(x));
-        due("sack", "c", () -> sackOf(x));
+        due("text", "abc", () -> Mills.textOf(x));
+        due("sack", "c", () -> Mills.sackOf(x));
         due("window", 16, x::window);
         due("buffer stays", 2, x::clearBuffer);
         due("undo it", 5, x::undo);
-        due("text", "", () -> textOf(x));
+        due("text", "", () -> Mills.textOf(x));
         due("again", 3, x::restore);
         x.addLetter(3);
         promise = 24;
@@ -611,15 +559,15 @@ public final class PromiseTest {
         due("the later one", 4, x::restore);
         x.setLetter(0, 3);
         due("it stays as it was", 4, x::restore);
-        due("text", "abcd", () -> textOf(x));
+        due("text", "abcd", () -> Mills.textOf(x));
         due("none", STATE, new SlideMills()::restore);
     }
 
     private static void looksAtTheText() {
         promise = 27;
-        SlideMills x = withText("dcba");
+        SlideMills x = Mills.withText("dcba");
         due("length", 4, x::textLength);
-        due("full", 40, withText(times(40, "a"))::textLength);
+        due("full", 40, Mills.withText(Mills.times(40, "a"))::textLength);
         promise = 28;
         due("first", 3, () -> x.letterAt(0));
         due("last", 0, () -> x.letterAt(3));
@@ -711,7 +659,7 @@ public final class PromiseTest {
     private static void expectWrong(String works, int token, int reason) {
         SlideMills x = new SlideMills();
         if (!works.isEmpty()) {
-            doWorks(x, works);
+            Mills.doWorks(x, works);
         }
         promise = 39;
         due(works, token, x::wrongToken);
@@ -724,7 +672,7 @@ public final class PromiseTest {
     private static void standsForTheText() {
         promise = 41;
         due("both empty", true, new SlideMills()::isForText);
-        SlideMills x = withText("abab");
+        SlideMills x = Mills.withText("abab");
         due("empty sack", false, x::isForText);
         x.pack(0);
         due("packed", true, x::isForText);
@@ -753,7 +701,7 @@ public final class PromiseTest {
     }
 
     private static void repeats() {
-        SlideMills x = withText("abcabcabcdabca");
+        SlideMills x = Mills.withText("abcabcabcdabca");
         int[] lengths = {0, 0, 0, 6, 5, 4, 3, 0, 0, 0, 4, 3, 0, 0};
         int[] distances = {0, 0, 0, 3, 3, 3, 3, 0, 0, 0, 7, 7, 0, 0};
         for (int place = 0; place < 14; place++) {
@@ -774,7 +722,7 @@ public final class PromiseTest {
     }
 
     private static void repeatEdges() {
-        SlideMills x = withText(times(20, "a"));
+        SlideMills x = Mills.withText(Mills.times(20, "a"));
         expectRepeat(x, 0, 0, 0);
         expectRepeat(x, 1, 8, 1);
         expectRepeat(x, 12, 8, 1);
@@ -787,24 +735,24 @@ public final class PromiseTest {
         expectRepeat(x, 1, 9, 1);
         x.setLongest(4);
         expectRepeat(x, 1, 4, 1);
-        SlideMills far = withText("abc" + times(13, "d") + "abcda");
+        SlideMills far = Mills.withText("abc" + Mills.times(13, "d") + "abcda");
         expectRepeat(far, 16, 4, 16);
         far.setWindow(15);
         expectRepeat(far, 16, 0, 0);
         far.setWindow(17);
         expectRepeat(far, 16, 4, 16);
-        SlideMills farthest = withText("abc" + times(29, "d") + "abcda");
+        SlideMills farthest = Mills.withText("abc" + Mills.times(29, "d") + "abcda");
         farthest.setWindow(31);
         expectRepeat(farthest, 32, 0, 0);
         farthest.setWindow(32);
         expectRepeat(farthest, 32, 4, 32);
-        SlideMills longer = withText("abcdabcaabcda");
+        SlideMills longer = Mills.withText("abcdabcaabcda");
         expectRepeat(longer, 8, 5, 8);
         longer.setWindow(7);
         expectRepeat(longer, 8, 3, 4);
-        SlideMills nearest = withText("abcdabccabc");
+        SlideMills nearest = Mills.withText("abcdabccabc");
         expectRepeat(nearest, 8, 3, 4);
-        SlideMills last = withText(times(20, "cd"));
+        SlideMills last = Mills.withText(Mills.times(20, "cd"));
         expectRepeat(last, 37, 3, 2);
         expectRepeat(last, 39, 0, 0);
     }
@@ -826,7 +774,7 @@ public final class PromiseTest {
     }
 
     private static void costs() {
-        SlideMills x = withText("abcabcabcdabca");
+        SlideMills x = Mills.withText("abcabcabcdabca");
         expectCosts(x, new int[] {22, 22, 22}, new int[] {6, 6, 6}, 22);
         x.setLetterPrice(1);
         x.setRepeatPrice(4);
@@ -834,14 +782,14 @@ public final class PromiseTest {
         expectCosts(x, new int[] {12, 12, 12}, new int[] {6, 6, 6}, 12);
         x.setRepeatPrice(5);
         expectCosts(x, new int[] {14, 14, 13}, new int[] {6, 6, 9}, 13);
-        SlideMills y = withText("bcdcdabcbcdabc");
+        SlideMills y = Mills.withText("bcdcdabcbcdabc");
         expectCosts(y, new int[] {34, 32, 32}, new int[] {10, 10, 10}, 32);
         SlideMills z = new SlideMills();
         expectCosts(z, new int[] {0, 0, 0}, new int[] {0, 0, 0}, 0);
     }
 
     private static void costEdges() {
-        SlideMills x = withText("abcd" + "abcd" + "abcd");
+        SlideMills x = Mills.withText("abcd" + "abcd" + "abcd");
         promise = 49;
         due("3", 36, () -> x.leastCostWith(3));
         due("4", 17, () -> x.leastCostWith(4));
@@ -863,7 +811,7 @@ public final class PromiseTest {
         promise = 46;
         due("3", ARGUMENT, () -> x.tokensBy(3));
         due("the sack stays", 0, x::tokens);
-        SlideMills dearest = withText(times(40, "a"));
+        SlideMills dearest = Mills.withText(Mills.times(40, "a"));
         dearest.setLetterPrice(9);
         dearest.setRepeatPrice(20);
         promise = 47;
@@ -873,7 +821,7 @@ public final class PromiseTest {
     }
 
     private static void pairs() {
-        SlideMills x = withText("abcabcabcdabca");
+        SlideMills x = Mills.withText("abcabcabcdabca");
         int[] counts = {0, 4, 0, 0, 0, 0, 4, 0, 3, 0, 0, 1, 1, 0, 0, 0};
         int[] lasts = {-1, 10, -1, -1, -1, -1, 11, -1, 12, -1, -1, 8, 9, -1, -1, -1};
         for (int i = 0; i < 16; i++) {
@@ -891,24 +839,24 @@ public final class PromiseTest {
             due("pair " + out, ARGUMENT, () -> x.lastPlaceOf(out));
         }
         promise = 50;
-        due("overlapping", 2, () -> withText("ddd").pairs(15));
-        due("the first pair", 3, () -> withText("aaaab").pairs(0));
-        due("one letter", 0, () -> withText("d").pairs(15));
+        due("overlapping", 2, () -> Mills.withText("ddd").pairs(15));
+        due("the first pair", 3, () -> Mills.withText("aaaab").pairs(0));
+        due("one letter", 0, () -> Mills.withText("d").pairs(15));
         promise = 51;
-        due("the first pair", 2, () -> withText("aaaab").lastPlaceOf(0));
-        due("at the end", 38, () -> withText(times(40, "d")).lastPlaceOf(15));
+        due("the first pair", 2, () -> Mills.withText("aaaab").lastPlaceOf(0));
+        due("at the end", 38, () -> Mills.withText(Mills.times(40, "d")).lastPlaceOf(15));
         promise = 52;
         due("the lowest of two", 1, x::mostFrequent);
-        due("the last one", 15, withText("dd")::mostFrequent);
-        due("the first one", 0, withText("aaab")::mostFrequent);
-        due("two alike", 4, withText("babcba")::mostFrequent);
-        due("one letter", STATE, withText("a")::mostFrequent);
+        due("the last one", 15, Mills.withText("dd")::mostFrequent);
+        due("the first one", 0, Mills.withText("aaab")::mostFrequent);
+        due("two alike", 4, Mills.withText("babcba")::mostFrequent);
+        due("one letter", STATE, Mills.withText("a")::mostFrequent);
         due("no letter", STATE, new SlideMills()::mostFrequent);
     }
 
     private static void shares() {
         promise = 53;
-        SlideMills x = withText("abcabcabcdabca");
+        SlideMills x = Mills.withText("abcabcabcdabca");
         due("empty sack", 1.0, x::packedShare);
         x.pack(0);
         due("packed", 22.0 / 42.0, x::packedShare);
@@ -930,73 +878,23 @@ public final class PromiseTest {
 
     private static void digests() {
         promise = 54;
-        SlideMills x = withText("a");
+        SlideMills x = Mills.withText("a");
         x.addToken(3);
         x.addRepeat(1, 2);
-        due("as told", digestOf(x, ""), x::digest);
-        type(x, "+ab;x");
-        due("with a buffer", digestOf(x, "+ab;x"), x::digest);
+        due("as told", Mills.digestOf(x, ""), x::digest);
+        Mills.type(x, "+ab;x");
+        due("with a buffer", Mills.digestOf(x, "+ab;x"), x::digest);
         x.clearBuffer();
-        doWorks(x, "+bcdabcd;p1;r39,40;u;-");
-        due("with a stop", digestOf(x, ""), x::digest);
-        due("empty", digestOf(new SlideMills(), ""), new SlideMills()::digest);
-        SlideMills two = withText("ba");
-        due("two letters", digestOf(two, ""), two::digest);
+        Mills.doWorks(x, "+bcdabcd;p1;r39,40;u;-");
+        due("with a stop", Mills.digestOf(x, ""), x::digest);
+        due("empty", Mills.digestOf(new SlideMills(), ""), new SlideMills()::digest);
+        SlideMills two = Mills.withText("ba");
+        due("two letters", Mills.digestOf(two, ""), two::digest);
         two.addRepeat(1, 1);
         two.setLetterPrice(1);
         for (int price = 1; price <= 20; price++) {
             two.setRepeatPrice(price);
-            due("the share " + price, digestOf(two, ""), two::digest);
+            due("the share " + price, Mills.digestOf(two, ""), two::digest);
         }
-    }
-
-    private static long hash;
-
-    private static void mix(long value) {
-        hash = 31 * hash + value;
-    }
-
-    /** By the document's words, of what the other calls answer. */
-    private static long digestOf(SlideMills x, String buffer) {
-        hash = 4483;
-        mix(x.textLength());
-        for (int i = 0; i < x.textLength(); i++) {
-            mix(x.letterAt(i));
-        }
-        int[] looks = {x.window(), x.shortest(), x.longest(), x.tokens(), x.sackCost(), x.sackLetters(),
-            x.wrongToken(), x.wrongReason(), x.isForText() ? 1 : 0, x.leastCost(),
-            x.leastCostFromBeginning(), x.leastCostWith(32), x.costBy(0), x.tokensBy(0), x.costBy(1),
-            x.tokensBy(1), x.costBy(2), x.tokensBy(2), x.savedStates()};
-        for (int look : looks) {
-            mix(look);
-        }
-        for (int i = 0; i < x.tokens(); i++) {
-            mix(x.isRepeat(i) ? 1 : 0);
-            mix(x.lengthOf(i));
-            mix(x.isRepeat(i) ? x.distanceOf(i) : x.letterOf(i));
-        }
-        for (int i = 0; i < x.textLength(); i++) {
-            mix(x.repeatLength(i));
-            mix(x.repeatLengthByPairs(i));
-            mix(x.repeatDistance(i));
-        }
-        for (int i = 0; i < 16; i++) {
-            mix(x.pairs(i));
-            mix(x.lastPlaceOf(i));
-        }
-        if (x.textLength() >= 2) {
-            mix(x.mostFrequent());
-        }
-        mix(x.hasStopped() ? 1 : 0);
-        if (x.hasStopped()) {
-            mix(x.stoppedPart());
-            mix(x.whyStopped());
-        }
-        mix(Double.doubleToLongBits(x.packedShare()));
-        mix(buffer.length());
-        for (int i = 0; i < buffer.length(); i++) {
-            mix(buffer.charAt(i));
-        }
-        return hash;
     }
 }
