@@ -16,6 +16,7 @@ final class PackEdges extends Edges {
         cheaply();
         cheapTies();
         pricesAtTheEdge();
+        oneWayByAnother();
         whatStays();
         leastCosts();
         otherWindows();
@@ -184,6 +185,33 @@ final class PackEdges extends Edges {
         packs(two, 2, "abab");
         two.setRepeatPrice(18);
         packs(two, 2, "ab<2,2>");
+    }
+
+    /** No answer hangs on the way that was asked for before. */
+    private void oneWayByAnother() {
+        int[] costs = {14, 14, 13};
+        int[] tokens = {6, 6, 9};
+        for (int way = 0; way <= 2; way++) {
+            int by = way;
+            of(45, "Returns the prices of all tokens that packing by a way would make, together");
+            due("alone, way " + by, costs[by], () -> cheapLetters().costBy(by));
+            of(46, "Returns the number of tokens that packing by a way would make");
+            due("alone, way " + by, tokens[by], () -> cheapLetters().tokensBy(by));
+            for (int before = 0; before <= 2; before++) {
+                SlideMills x = cheapLetters();
+                x.costBy(before);
+                due("way " + by + " behind the cost by " + before, tokens[by], () -> x.tokensBy(by));
+                x.pack(before);
+                due("way " + by + " behind packing by " + before, tokens[by], () -> x.tokensBy(by));
+                due("packed by " + before, tokens[before], x::tokens);
+            }
+        }
+    }
+
+    private static SlideMills cheapLetters() {
+        SlideMills x = Mills.withText("abcabcabcdabca");
+        x.setLetterPrice(1);
+        return x;
     }
 
     private void whatStays() {

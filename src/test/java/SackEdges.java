@@ -264,6 +264,7 @@ final class SackEdges extends Edges {
         SlideMills x = Mills.after(works);
         due(works + ", token", token, x::wrongToken);
         due(works + ", reason", reason, x::wrongReason);
+        due(works + ", reason alone", reason, Mills.after(works)::wrongReason);
         if (reason == 0) {
             due(works + ", letters", x.sackLetters(), x::unpack);
             due(works + ", by works", false, Mills.after(works + ";u")::hasStopped);
